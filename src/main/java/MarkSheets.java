@@ -470,7 +470,7 @@ public final class MarkSheets {
         for (int mark = 0; mark < MARKS; mark++) {
             unplaced[mark] = countInPile(size, mark);
         }
-        return countOrders(size, drift);
+        return countOrders(unplaced, size, drift);
     }
 
     private int countInPile(int size, int mark) {
@@ -484,17 +484,17 @@ public final class MarkSheets {
     }
 
     /** Of the orders of the unplaced marks (todo of them), how many drift by wanted or more. */
-    private int countOrders(int todo, int wanted) {
+    private static int countOrders(int[] unplaced, int todo, int wanted) {
         if (todo <= 0) {
             return wanted <= 0 ? 1 : 0;
         }
         int orders = 0;
-        for (int mark = 0; mark < MARKS; mark++) {
+        for (int mark = 0; mark < unplaced.length; mark++) {
             int same = unplaced[mark];
             if (same > 0) {
                 unplaced[mark] = same - 1;
                 // Each of the same marks could be the next one, and the orders behind it are alike.
-                orders += same * countOrders(todo - 1, wanted - driftBehind(mark));
+                orders += same * countOrders(unplaced, todo - 1, wanted - driftBehind(mark, unplaced));
                 unplaced[mark] = same;
             }
         }
@@ -502,9 +502,9 @@ public final class MarkSheets {
     }
 
     /** RISES less FALLS from a mark to all the unplaced ones, which come later than it. */
-    private int driftBehind(int mark) {
+    private static int driftBehind(int mark, int[] unplaced) {
         int drift = 0;
-        for (int later = 0; later < MARKS; later++) {
+        for (int later = 0; later < unplaced.length; later++) {
             drift += unplaced[later] * Integer.compare(later, mark);
         }
         return drift;

@@ -32,6 +32,9 @@ public final class AnchorsTest {
         CHECK.due("anchor(1, NONE)", x.anchor(1, NONE), 0);
         CHECK.due("anchor(1, NONE)", x.anchor(1, NONE), NONE);
         CHECK.due("count(1)", x.count(1), 0);
+        CHECK.due("anchor(0, 2)", x.anchor(0, 2), NONE);
+        CHECK.due("count(1)", x.count(1), 1);
+        CHECK.due("anchor(0, NONE)", x.anchor(0, NONE), 2);
         CHECK.due("anchor(2, 0)", x.anchor(2, 0), BAD);
         for (int far : OUTSIDE) {
             CHECK.due("anchor of work " + far, x.anchor(far, 0), BAD);

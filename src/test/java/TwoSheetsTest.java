@@ -6,6 +6,7 @@ public final class TwoSheetsTest {
 
     public static void main(String[] args) {
         moves();
+        movesOfTwelve();
         copy();
         copyDoesNotTie();
         count();
@@ -40,11 +41,23 @@ public final class TwoSheetsTest {
         CHECK.due("moves does not come to the trace", x.trace(), 0);
     }
 
+    private static void movesOfTwelve() {
+        MarkSheets x = new MarkSheets();
+        for (int i = 0; i < 12; i++) {
+            x.work(i < 6 ? 9 : 0, i < 6 ? 0 : 9, 0, 0);
+        }
+        x.line(0, 0, 0, 0, 5);
+        x.line(1, 1, 0, 1, 5);
+        CHECK.due("twelve works: moves(0)", x.moves(0), 12);
+        CHECK.due("twelve works: moves(1)", x.moves(1), 36);
+    }
+
     /** Sheet 0 gets lines of one weight, sheet 1 of another, so that they can be told apart. */
     private static MarkSheets twoSheets() {
         MarkSheets x = new MarkSheets();
         for (int line = 0; line < 4; line++) {
             x.line(0, line, 1, 3 - line, 4);
+            x.span(0, line, 0, 6, 2);
             x.span(0, line, 2, 5, 8);
             x.line(1, line, 2, 0, 7);
             x.span(1, line, 3, 6, 9);
@@ -54,7 +67,7 @@ public final class TwoSheetsTest {
 
     private static void holds(String text, MarkSheets x, int sheet, boolean asFirst) {
         for (int line = 0; line < 4; line++) {
-            int[] first = {1, 3 - line, 4, 0, 0, 1, 3, 5, 8, 7, 9};
+            int[] first = {1, 3 - line, 4, 6, 2, 1, 3, 5, 8, 7, 9};
             int[] second = {2, 0, 7, 0, 0, 1, 3, 4, 6, 6, 9};
             for (int what = 0; what <= 10; what++) {
                 String call = text + ": about(" + sheet + ", " + line + ", " + what + ")";

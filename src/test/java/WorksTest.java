@@ -168,6 +168,8 @@ public final class WorksTest {
         give(x, 0, 1, 1, 3, 0, 0);
         give(x, 1, 1, 1, 3, 0, NONE);
         CHECK.due("all alike", x.parts(0, 1), NONE);
+        x.mark(1, 0, 2);
+        CHECK.due("by one, work 0", x.parts(0, 1), 0);
         give(x, 1, 1, 2, 1, 2, NONE);
         CHECK.due("of several the least number", x.parts(0, 1), 2);
         CHECK.due("either way round", x.parts(1, 0), 2);
