@@ -15,17 +15,8 @@ public final class AnchorsTest {
         CHECK.end();
     }
 
-    private static MarkSheets marked(int... marks) {
-        MarkSheets x = new MarkSheets();
-        for (int i = 0; i < marks.length; i++) {
-            x.work(0, 0, 0, 0);
-            x.mark(1, i, marks[i]);
-        }
-        return x;
-    }
-
     private static void anchor() {
-        MarkSheets x = marked(0, 0);
+        MarkSheets x = Made.marked(0, 0);
         CHECK.due("anchor(1, 3)", x.anchor(1, 3), NONE);
         CHECK.due("anchor(1, 0)", x.anchor(1, 0), 3);
         CHECK.due("TRUE 0 is an anchor", x.count(1), 1);
@@ -50,7 +41,7 @@ public final class AnchorsTest {
     }
 
     private static void off() {
-        MarkSheets x = marked(3, 3, 0, 1, NONE);
+        MarkSheets x = Made.marked(3, 3, 0, 1, NONE);
         ratio("no anchors", x, STATE, STATE, 0);
         x.anchor(4, 3);
         ratio("an anchor without a mark", x, STATE, STATE, 0);
@@ -70,7 +61,7 @@ public final class AnchorsTest {
     }
 
     private static void fairRounds() {
-        MarkSheets x = marked(1, 1, 1, 2);
+        MarkSheets x = Made.marked(1, 1, 1, 2);
         x.anchor(0, 0);
         x.anchor(1, 1);
         CHECK.due("2 less 1/2, a half to the greater one", x.fair(1, 3), 2);
@@ -87,7 +78,7 @@ public final class AnchorsTest {
     }
 
     private static void fairStaysWithinMarks() {
-        MarkSheets x = marked(3, 0, 1);
+        MarkSheets x = Made.marked(3, 0, 1);
         x.anchor(0, 0);
         CHECK.due("0 less 3", x.fair(1, 1), 0);
         CHECK.due("3 less 3", x.fair(1, 0), 0);
@@ -95,14 +86,14 @@ public final class AnchorsTest {
         x.anchor(1, 3);
         CHECK.due("3 and 3", x.fair(1, 0), 3);
         CHECK.due("0 and 3", x.fair(1, 1), 3);
-        MarkSheets half = marked(1, 1, 0);
+        MarkSheets half = Made.marked(1, 1, 0);
         half.anchor(0, 0);
         half.anchor(1, 1);
         CHECK.due("0 less 1/2", half.fair(1, 2), 0);
     }
 
     private static void fairRefuses() {
-        MarkSheets x = marked(1, NONE);
+        MarkSheets x = Made.marked(1, NONE);
         CHECK.due("no OFF", x.fair(1, 0), STATE);
         x.anchor(0, 1);
         CHECK.due("no mark", x.fair(1, 1), STATE);
@@ -126,17 +117,17 @@ public final class AnchorsTest {
 
     private static void drift() {
         drifts("no works", new MarkSheets(), 0, 1, 0);
-        drifts("one work", marked(2), 0, 1, 1);
-        drifts("a rise", marked(1, 3), 1, 1, 2);
-        drifts("a fall", marked(3, 1), -1, 2, 2);
-        drifts("two alike, each order counted", marked(1, 1), 0, 2, 2);
-        drifts("a rise among alike ones", marked(0, 0, 1), 2, 2, 3);
-        drifts("all rises", marked(0, 1, 2, 3), 6, 1, 4);
-        drifts("all falls", marked(3, 2, 1, 0), -6, 24, 4);
-        drifts("one pair turned", marked(0, 2, 1, 3), 4, 4, 4);
-        drifts("six alike", marked(2, 2, 2, 2, 2, 2), 0, 720, 6);
-        drifts("works without a mark are left out", marked(NONE, 0, NONE, 2, NONE, 1), 1, 3, 3);
-        MarkSheets x = marked(0, 1);
+        drifts("one work", Made.marked(2), 0, 1, 1);
+        drifts("a rise", Made.marked(1, 3), 1, 1, 2);
+        drifts("a fall", Made.marked(3, 1), -1, 2, 2);
+        drifts("two alike, each order counted", Made.marked(1, 1), 0, 2, 2);
+        drifts("a rise among alike ones", Made.marked(0, 0, 1), 2, 2, 3);
+        drifts("all rises", Made.marked(0, 1, 2, 3), 6, 1, 4);
+        drifts("all falls", Made.marked(3, 2, 1, 0), -6, 24, 4);
+        drifts("one pair turned", Made.marked(0, 2, 1, 3), 4, 4, 4);
+        drifts("six alike", Made.marked(2, 2, 2, 2, 2, 2), 0, 720, 6);
+        drifts("works without a mark are left out", Made.marked(NONE, 0, NONE, 2, NONE, 1), 1, 3, 3);
+        MarkSheets x = Made.marked(0, 1);
         for (int far : new int[] {Integer.MIN_VALUE, -1, 3, Integer.MAX_VALUE}) {
             CHECK.due("drift of " + far, x.drift(far, 0), BAD);
             CHECK.due("drift what " + far, x.drift(1, far), BAD);
@@ -144,7 +135,7 @@ public final class AnchorsTest {
     }
 
     private static void driftOfTheFirstSix() {
-        MarkSheets x = marked(0, 0, 0, 1, 1, 1, 0, 0, 3);
+        MarkSheets x = Made.marked(0, 0, 0, 1, 1, 1, 0, 0, 3);
         drifts("the first six", x, 9, 36, 6);
         x.mark(1, 0, NONE);
         drifts("the seventh comes up", x, 3, 252, 6);

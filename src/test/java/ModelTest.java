@@ -2,7 +2,7 @@ import java.util.Random;
 
 /** Promises 1 to 22 together: runs of 512 calls with any arguments, held against Model. */
 public final class ModelTest {
-    private static final int RUNS = 1500, CALLS = 512;
+    private static final int RUNS = 1500, CALLS = 512, LINE_CALLS = 5;
     private static final int[] STRANGE = {Integer.MIN_VALUE, -900, -899, -1, 10, 12, 13, 1 << 30, Integer.MAX_VALUE};
     private static final Check CHECK = new Check();
 
@@ -10,6 +10,7 @@ public final class ModelTest {
     private final MarkSheets x = new MarkSheets();
     private final Model model = new Model();
     private final boolean hasStrange;
+    private int calls = 0;
 
     private ModelTest(int seed) {
         random = new Random(seed);
@@ -19,9 +20,10 @@ public final class ModelTest {
     public static void main(String[] args) {
         for (int run = 0; run < RUNS; run++) {
             ModelTest test = new ModelTest(run);
-            for (int call = 0; call < CALLS; call++) {
-                test.step("run " + run + ", call " + call + ": ");
+            while (test.calls < CALLS) {
+                test.step("run " + run + ", call " + test.calls + ": ");
             }
+            CHECK.due("run " + run + ": its calls", test.calls, CALLS);
         }
         CHECK.end();
     }
@@ -36,7 +38,7 @@ public final class ModelTest {
     }
 
     private int pickWork() {
-        return pick(Math.max(0, x.count(0) - 1));
+        return pick(Math.max(0, model.count(0) - 1));
     }
 
     private int pickMark() {
@@ -51,6 +53,12 @@ public final class ModelTest {
         return text.append(')').toString();
     }
 
+    /** What an object answers is promised for so many calls alone, so each one is counted. */
+    private void due(String call, long got, long want) {
+        calls++;
+        CHECK.due(call, got, want);
+    }
+
     private void step(String at) {
         int call = random.nextInt(40);
         if (call < 14) {
@@ -63,25 +71,25 @@ public final class ModelTest {
     private void change(String at, int call) {
         if (call < 2) {
             int a = pick(1), b = pick(3), c = pick(2), d = pick(3), e = pick(9);
-            CHECK.due(at + told("line", a, b, c, d, e), x.line(a, b, c, d, e), model.line(a, b, c, d, e));
+            due(at + told("line", a, b, c, d, e), x.line(a, b, c, d, e), model.line(a, b, c, d, e));
         } else if (call < 5) {
             int a = pick(1), b = pick(3), c = pick(3), d = pick(9), e = pick(9);
-            CHECK.due(at + told("span", a, b, c, d, e), x.span(a, b, c, d, e), model.span(a, b, c, d, e));
+            due(at + told("span", a, b, c, d, e), x.span(a, b, c, d, e), model.span(a, b, c, d, e));
         } else if (call < 6) {
             int a = pick(9), b = pick(9), c = pick(9), d = pick(9);
-            CHECK.due(at + told("work", a, b, c, d), x.work(a, b, c, d), model.work(a, b, c, d));
+            due(at + told("work", a, b, c, d), x.work(a, b, c, d), model.work(a, b, c, d));
         } else if (call < 7) {
             int a = pickWork(), b = pick(3), c = pick(9);
-            CHECK.due(at + told("fact", a, b, c), x.fact(a, b, c), model.fact(a, b, c));
+            due(at + told("fact", a, b, c), x.fact(a, b, c), model.fact(a, b, c));
         } else if (call < 11) {
             int a = pick(2), b = pickWork(), c = pickMark();
-            CHECK.due(at + told("mark", a, b, c), x.mark(a, b, c), model.mark(a, b, c));
+            due(at + told("mark", a, b, c), x.mark(a, b, c), model.mark(a, b, c));
         } else if (call < 13) {
             int a = pickWork(), b = pickMark();
-            CHECK.due(at + told("anchor", a, b), x.anchor(a, b), model.anchor(a, b));
-        } else if (random.nextInt(4) == 0) {
+            due(at + told("anchor", a, b), x.anchor(a, b), model.anchor(a, b));
+        } else if (random.nextInt(4) == 0 || calls + LINE_CALLS > CALLS) {
             int a = pick(2);
-            CHECK.due(at + told("copy", a), x.copy(a), model.copy(a));
+            due(at + told("copy", a), x.copy(a), model.copy(a));
         } else {
             sensibleLine(at);
         }
@@ -96,46 +104,46 @@ public final class ModelTest {
             int to = i == 3 ? 9 : Math.min(9, next + random.nextInt(5) - 1);
             int from = next > 9 ? 9 : next;
             to = next > 9 ? 0 : Math.max(0, to);
-            CHECK.due(at + "span", x.span(sheet, line, level, from, to), model.span(sheet, line, level, from, to));
+            due(at + "span", x.span(sheet, line, level, from, to), model.span(sheet, line, level, from, to));
             next = Math.max(next, to + 1);
         }
-        CHECK.due(at + told("sensible", sheet, line), x.sensible(sheet, line), model.sensible(sheet, line));
+        due(at + told("sensible", sheet, line), x.sensible(sheet, line), model.sensible(sheet, line));
     }
 
     private void ask(String at, int call) {
         int a = pick(1), b = pick(3), c = pick(2), d = pick(2), work = pickWork(), v = pick(9);
         if (call < 15) {
             int what = pick(10);
-            CHECK.due(at + told("about", a, b, what), x.about(a, b, what), model.about(a, b, what));
+            due(at + told("about", a, b, what), x.about(a, b, what), model.about(a, b, what));
         } else if (call < 19) {
-            CHECK.due(at + told("level", a, b, v), x.level(a, b, v), model.level(a, b, v));
+            due(at + told("level", a, b, v), x.level(a, b, v), model.level(a, b, v));
         } else if (call < 21) {
             int what = pick(1);
-            CHECK.due(at + told("sense", a, b, what), x.sense(a, b, what), model.sense(a, b, what));
+            due(at + told("sense", a, b, what), x.sense(a, b, what), model.sense(a, b, what));
         } else if (call < 22) {
-            CHECK.due(at + told("sensible", a, b), x.sensible(a, b), model.sensible(a, b));
+            due(at + told("sensible", a, b), x.sensible(a, b), model.sensible(a, b));
         } else if (call < 24) {
-            CHECK.due(at + told("points", a, work), x.points(a, work), model.points(a, work));
+            due(at + told("points", a, work), x.points(a, work), model.points(a, work));
         } else if (call < 25) {
-            CHECK.due(at + told("given", c, work), x.given(c, work), model.given(c, work));
+            due(at + told("given", c, work), x.given(c, work), model.given(c, work));
         } else if (call < 27) {
             int part = pick(2);
-            CHECK.due(at + told("like", c, d, part), x.like(c, d, part), model.like(c, d, part));
+            due(at + told("like", c, d, part), x.like(c, d, part), model.like(c, d, part));
         } else if (call < 29) {
-            CHECK.due(at + told("parts", c, d), x.parts(c, d), model.parts(c, d));
+            due(at + told("parts", c, d), x.parts(c, d), model.parts(c, d));
         } else if (call < 31) {
-            CHECK.due(at + told("off", c, d), x.off(c, d), model.off(c, d));
+            due(at + told("off", c, d), x.off(c, d), model.off(c, d));
         } else if (call < 34) {
-            CHECK.due(at + told("fair", c, work), x.fair(c, work), model.fair(c, work));
+            due(at + told("fair", c, work), x.fair(c, work), model.fair(c, work));
         } else if (call < 36) {
-            CHECK.due(at + told("drift", c, d), x.drift(c, d), model.drift(c, d));
+            due(at + told("drift", c, d), x.drift(c, d), model.drift(c, d));
         } else if (call < 38) {
-            CHECK.due(at + told("moves", a), x.moves(a), model.moves(a));
+            due(at + told("moves", a), x.moves(a), model.moves(a));
         } else if (call < 39) {
             int what = pick(4);
-            CHECK.due(at + told("count", what), x.count(what), model.count(what));
+            due(at + told("count", what), x.count(what), model.count(what));
         } else {
-            CHECK.due(at + "trace()", x.trace(), model.trace());
+            due(at + "trace()", x.trace(), model.trace());
         }
     }
 }

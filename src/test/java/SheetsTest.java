@@ -25,16 +25,6 @@ public final class SheetsTest {
         }
     }
 
-    /** Makes line 0 of sheet 0: four spans, each from, to. */
-    private static MarkSheets lineOf(int kind, int... spans) {
-        MarkSheets x = new MarkSheets();
-        CHECK.due("line", x.line(0, 0, kind, 0, 1), 1);
-        for (int k = 0; k < 4; k++) {
-            CHECK.due("span", x.span(0, 0, k, spans[2 * k], spans[2 * k + 1]), 1);
-        }
-        return x;
-    }
-
     private static void newObject() {
         MarkSheets x = new MarkSheets();
         int[] spans = {0, 0, 1, 3, 4, 6, 7, 9};
@@ -104,7 +94,7 @@ public final class SheetsTest {
     }
 
     private static void about() {
-        MarkSheets x = lineOf(FILLED, 1, 2, 3, 4, 5, 6, 7, 8);
+        MarkSheets x = Made.line(FILLED, 1, 2, 3, 4, 5, 6, 7, 8);
         for (int i = 0; i < 8; i++) {
             CHECK.due("about(0, 0, " + (3 + i) + ")", x.about(0, 0, 3 + i), 1 + i);
         }
@@ -120,9 +110,9 @@ public final class SheetsTest {
 
     private static void strictLevel() {
         levels("strict at first", new MarkSheets(), 0, 1, 1, 1, 2, 2, 2, 3, 3, 3);
-        levels("strict, the greatest level", lineOf(STRICT, 0, 9, 0, 4, 3, 3, 5, 4),
+        levels("strict, the greatest level", Made.line(STRICT, 0, 9, 0, 4, 3, 3, 5, 4),
             1, 1, 1, 2, 1, 0, 0, 0, 0, 0);
-        levels("strict, gaps", lineOf(STRICT, 1, 1, 3, 4, 9, 0, 8, 8),
+        levels("strict, gaps", Made.line(STRICT, 1, 1, 3, 4, 9, 0, 8, 8),
             NONE, 0, NONE, 1, 1, NONE, NONE, NONE, 3, NONE);
         MarkSheets x = new MarkSheets();
         for (int far : OUTSIDE) {
@@ -136,34 +126,34 @@ public final class SheetsTest {
     }
 
     private static void filledLevel() {
-        levels("filled, no gap", lineOf(FILLED, 0, 0, 1, 3, 4, 6, 7, 9), 0, 1, 1, 1, 2, 2, 2, 3, 3, 3);
-        levels("filled, gaps", lineOf(FILLED, 1, 1, 3, 4, 9, 0, 8, 8), 0, 0, 0, 1, 1, 1, 1, 1, 3, 3);
-        levels("filled, the greatest level below, not the nearest", lineOf(FILLED, 5, 5, 9, 8, 9, 8, 1, 2),
+        levels("filled, no gap", Made.line(FILLED, 0, 0, 1, 3, 4, 6, 7, 9), 0, 1, 1, 1, 2, 2, 2, 3, 3, 3);
+        levels("filled, gaps", Made.line(FILLED, 1, 1, 3, 4, 9, 0, 8, 8), 0, 0, 0, 1, 1, 1, 1, 1, 3, 3);
+        levels("filled, the greatest level below, not the nearest", Made.line(FILLED, 5, 5, 9, 8, 9, 8, 1, 2),
             0, 3, 3, 3, 3, 0, 3, 3, 3, 3);
-        levels("filled, an empty span is not below", lineOf(FILLED, 9, 8, 9, 8, 3, 2, 1, 0),
+        levels("filled, an empty span is not below", Made.line(FILLED, 9, 8, 9, 8, 3, 2, 1, 0),
             0, 0, 0, 0, 0, 0, 0, 0, 0, 0);
     }
 
     private static void kindLevel() {
-        levels("kind at first", lineOf(KIND, 0, 0, 1, 3, 4, 6, 7, 9), 1, 1, 1, 2, 2, 2, 3, 3, 3, 3);
-        levels("kind, filled gaps get no more", lineOf(KIND, 1, 1, 3, 4, 9, 0, 8, 8),
+        levels("kind at first", Made.line(KIND, 0, 0, 1, 3, 4, 6, 7, 9), 1, 1, 1, 2, 2, 2, 3, 3, 3, 3);
+        levels("kind, filled gaps get no more", Made.line(KIND, 1, 1, 3, 4, 9, 0, 8, 8),
             0, 1, 0, 1, 2, 1, 1, 1, 3, 3);
-        levels("kind, the last of the greatest level's span", lineOf(KIND, 0, 5, 3, 6, 9, 8, 9, 8),
+        levels("kind, the last of the greatest level's span", Made.line(KIND, 0, 5, 3, 6, 9, 8, 9, 8),
             0, 0, 0, 1, 1, 1, 2, 1, 1, 1);
     }
 
     private static void emptySpansHaveNoLast() {
-        levels("kind, level 0 empty", lineOf(KIND, 5, 4, 9, 8, 9, 8, 9, 8), 0, 0, 0, 0, 0, 0, 0, 0, 0, 0);
+        levels("kind, level 0 empty", Made.line(KIND, 5, 4, 9, 8, 9, 8, 9, 8), 0, 0, 0, 0, 0, 0, 0, 0, 0, 0);
     }
 
     private static void sense() {
-        MarkSheets x = lineOf(STRICT, 0, 2, 2, 3, 9, 4, 3, 8);
+        MarkSheets x = Made.line(STRICT, 0, 2, 2, 3, 9, 4, 3, 8);
         CHECK.due("gaps", x.sense(0, 0, 0), 1 << 9);
         CHECK.due("overlaps", x.sense(0, 0, 1), 1 << 2 | 1 << 3);
-        MarkSheets all = lineOf(KIND, 0, 9, 0, 9, 0, 9, 0, 0);
+        MarkSheets all = Made.line(KIND, 0, 9, 0, 9, 0, 9, 0, 0);
         CHECK.due("three spans overlap", all.sense(0, 0, 1), 1023);
         CHECK.due("no gaps", all.sense(0, 0, 0), 0);
-        MarkSheets none = lineOf(FILLED, 9, 0, 9, 8, 1, 0, 5, 4);
+        MarkSheets none = Made.line(FILLED, 9, 0, 9, 8, 1, 0, 5, 4);
         CHECK.due("all gaps, whatever the kind fills", none.sense(0, 0, 0), 1023);
         CHECK.due("no overlaps", none.sense(0, 0, 1), 0);
         CHECK.due("sense(0, 0, 2)", x.sense(0, 0, 2), BAD);
@@ -177,16 +167,16 @@ public final class SheetsTest {
 
     private static void sensible() {
         CHECK.due("sensible at first", new MarkSheets().sensible(1, 3), 1);
-        CHECK.due("a gap", lineOf(FILLED, 0, 0, 1, 3, 4, 6, 7, 8).sensible(0, 0), 0);
-        CHECK.due("an overlap", lineOf(STRICT, 0, 1, 1, 3, 4, 6, 7, 9).sensible(0, 0), 0);
-        CHECK.due("empty levels", lineOf(STRICT, 9, 0, 0, 5, 9, 0, 6, 9).sensible(0, 0), 1);
-        CHECK.due("a better fact gets less", lineOf(STRICT, 7, 9, 1, 3, 4, 6, 0, 0).sensible(0, 0), 0);
-        CHECK.due("strict, 9 gets less", lineOf(STRICT, 9, 0, 9, 0, 9, 9, 0, 8).sensible(0, 0), 0);
-        CHECK.due("filled, 9 gets less", lineOf(FILLED, 9, 0, 9, 0, 9, 9, 0, 8).sensible(0, 0), 0);
-        CHECK.due("kind lifts 9 to the same", lineOf(KIND, 9, 0, 9, 0, 9, 9, 0, 8).sensible(0, 0), 1);
-        CHECK.due("kind, two levels", lineOf(KIND, 0, 3, 4, 9, 9, 0, 9, 0).sensible(0, 0), 1);
-        CHECK.due("kind, levels fall by one", lineOf(KIND, 4, 9, 0, 3, 9, 0, 9, 0).sensible(0, 0), 0);
-        CHECK.due("one level for all", lineOf(KIND, 9, 0, 9, 0, 0, 9, 9, 0).sensible(0, 0), 1);
+        CHECK.due("a gap", Made.line(FILLED, 0, 0, 1, 3, 4, 6, 7, 8).sensible(0, 0), 0);
+        CHECK.due("an overlap", Made.line(STRICT, 0, 1, 1, 3, 4, 6, 7, 9).sensible(0, 0), 0);
+        CHECK.due("empty levels", Made.line(STRICT, 9, 0, 0, 5, 9, 0, 6, 9).sensible(0, 0), 1);
+        CHECK.due("a better fact gets less", Made.line(STRICT, 7, 9, 1, 3, 4, 6, 0, 0).sensible(0, 0), 0);
+        CHECK.due("strict, 9 gets less", Made.line(STRICT, 9, 0, 9, 0, 9, 9, 0, 8).sensible(0, 0), 0);
+        CHECK.due("filled, 9 gets less", Made.line(FILLED, 9, 0, 9, 0, 9, 9, 0, 8).sensible(0, 0), 0);
+        CHECK.due("kind lifts 9 to the same", Made.line(KIND, 9, 0, 9, 0, 9, 9, 0, 8).sensible(0, 0), 1);
+        CHECK.due("kind, two levels", Made.line(KIND, 0, 3, 4, 9, 9, 0, 9, 0).sensible(0, 0), 1);
+        CHECK.due("kind, levels fall by one", Made.line(KIND, 4, 9, 0, 3, 9, 0, 9, 0).sensible(0, 0), 0);
+        CHECK.due("one level for all", Made.line(KIND, 9, 0, 9, 0, 0, 9, 9, 0).sensible(0, 0), 1);
         MarkSheets x = new MarkSheets();
         CHECK.due("sensible(2, 0)", x.sensible(2, 0), BAD);
         CHECK.due("sensible(-1, 0)", x.sensible(-1, 0), BAD);

@@ -17,22 +17,8 @@ public final class WorksTest {
         CHECK.end();
     }
 
-    private static MarkSheets withWorks(int n) {
-        MarkSheets x = new MarkSheets();
-        for (int i = 0; i < n; i++) {
-            CHECK.due("work " + i, x.work(0, 0, 0, 0), i);
-        }
-        return x;
-    }
-
-    private static void give(MarkSheets x, int marker, int... marks) {
-        for (int i = 0; i < marks.length; i++) {
-            x.mark(marker, i, marks[i]);
-        }
-    }
-
     private static void work() {
-        MarkSheets x = withWorks(3);
+        MarkSheets x = Made.works(3);
         for (int far : new int[] {Integer.MIN_VALUE, NONE, -1, 10, Integer.MAX_VALUE}) {
             CHECK.due("work a " + far, x.work(far, 0, 0, 0), BAD);
             CHECK.due("work b " + far, x.work(0, far, 0, 0), BAD);
@@ -53,7 +39,7 @@ public final class WorksTest {
     }
 
     private static void fact() {
-        MarkSheets x = withWorks(2);
+        MarkSheets x = Made.works(2);
         CHECK.due("fact(1, 3, 9)", x.fact(1, 3, 9), 0);
         CHECK.due("fact(1, 3, 4)", x.fact(1, 3, 4), 9);
         CHECK.due("fact(0, 3, 0)", x.fact(0, 3, 0), 0);
@@ -90,7 +76,7 @@ public final class WorksTest {
     }
 
     private static void mark() {
-        MarkSheets x = withWorks(2);
+        MarkSheets x = Made.works(2);
         CHECK.due("given at first", x.given(2, 1), NONE);
         CHECK.due("mark(2, 1, 3)", x.mark(2, 1, 3), NONE);
         CHECK.due("given(2, 1)", x.given(2, 1), 3);
@@ -120,14 +106,14 @@ public final class WorksTest {
     }
 
     private static void like() {
-        MarkSheets x = withWorks(4);
-        give(x, 0, 0, 1, 2, 3);
-        give(x, 1, 0, 1, 2, 3);
-        give(x, 2, 3, 2, 1, 0);
+        MarkSheets x = Made.works(4);
+        Made.give(x, 0, 0, 1, 2, 3);
+        Made.give(x, 1, 0, 1, 2, 3);
+        Made.give(x, 2, 3, 2, 1, 0);
         ratio("all alike", x, 0, 1, 1, 1, 4);
         ratio("less alike than by chance", x, 0, 2, -1, 3, 4);
         ratio("either way round", x, 2, 0, -1, 3, 4);
-        give(x, 2, 0, 0, 2, 2);
+        Made.give(x, 2, 0, 0, 2, 2);
         ratio("in least form", x, 1, 2, 1, 3, 4);
         for (int far : new int[] {Integer.MIN_VALUE, -1, 3, Integer.MAX_VALUE}) {
             CHECK.due("like of " + far, x.like(far, 0, 0), BAD);
@@ -140,37 +126,37 @@ public final class WorksTest {
     }
 
     private static void likeOverBothMarked() {
-        MarkSheets x = withWorks(6);
-        give(x, 0, 0, 1, 1, NONE, NONE, 0);
-        give(x, 1, 0, 1, 0, 3, 0, NONE);
+        MarkSheets x = Made.works(6);
+        Made.give(x, 0, 0, 1, 1, NONE, NONE, 0);
+        Made.give(x, 1, 0, 1, 0, 3, 0, NONE);
         // Over works 0 .. 2: A = 2, n = 3, E = 1 * 2 + 2 * 1.
         ratio("marks of one alone do not count", x, 0, 1, 2, 5, 3);
     }
 
     private static void noLikeness() {
-        MarkSheets x = withWorks(2);
+        MarkSheets x = Made.works(2);
         CHECK.due("none marked", x.like(0, 1, 0), STATE);
         CHECK.due("none marked", x.like(0, 1, 1), STATE);
         CHECK.due("none marked", x.like(0, 1, 2), 0);
         CHECK.due("BAD goes before STATE", x.like(0, 0, 0), BAD);
-        give(x, 0, 2, 2);
-        give(x, 1, 2, 2);
+        Made.give(x, 0, 2, 2);
+        Made.give(x, 1, 2, 2);
         CHECK.due("a lower part of 0", x.like(0, 1, 0), STATE);
         CHECK.due("a lower part of 0", x.like(0, 1, 1), STATE);
         CHECK.due("a lower part of 0", x.like(0, 1, 2), 2);
-        give(x, 1, 1, 1);
+        Made.give(x, 1, 1, 1);
         ratio("never alike", x, 0, 1, 0, 1, 2);
     }
 
     private static void parts() {
-        MarkSheets x = withWorks(5);
+        MarkSheets x = Made.works(5);
         CHECK.due("none marked", x.parts(0, 1), NONE);
-        give(x, 0, 1, 1, 3, 0, 0);
-        give(x, 1, 1, 1, 3, 0, NONE);
+        Made.give(x, 0, 1, 1, 3, 0, 0);
+        Made.give(x, 1, 1, 1, 3, 0, NONE);
         CHECK.due("all alike", x.parts(0, 1), NONE);
         x.mark(1, 0, 2);
         CHECK.due("by one, work 0", x.parts(0, 1), 0);
-        give(x, 1, 1, 2, 1, 2, NONE);
+        Made.give(x, 1, 1, 2, 1, 2, NONE);
         CHECK.due("of several the least number", x.parts(0, 1), 2);
         CHECK.due("either way round", x.parts(1, 0), 2);
         x.mark(1, 3, 3);
