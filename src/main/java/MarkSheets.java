@@ -536,8 +536,14 @@ public final class MarkSheets {
             }
         }
 
+        /** Each KIND's body starts from what the one over it says, so the bodies come in that order. */
         int levelFor(int v) {
-            return kind == STRICT ? strictLevel(v) : kind == FILLED ? filledLevel(v) : kindLevel(v);
+            int strict = strictLevel(v);
+            if (kind == STRICT) {
+                return strict;
+            }
+            int filled = strict == NONE ? greatestBelow(v) : strict;
+            return kind == FILLED ? filled : kindLevel(filled, v);
         }
 
         /** A KIND's body asks, once each, all the bodies that stand over it. */
@@ -557,13 +563,7 @@ public final class MarkSheets {
             return NONE;
         }
 
-        private int filledLevel(int v) {
-            int up = strictLevel(v);
-            return up == NONE ? greatestBelow(v) : up;
-        }
-
-        private int kindLevel(int v) {
-            int up = filledLevel(v);
+        private int kindLevel(int up, int v) {
             // An empty SPAN has no last fact, so v must stand in it as well as at its end.
             boolean isLast = spanHas(up, v) && to[up] == v;
             return isLast ? Math.min(LEVELS - 1, up + 1) : up;
