@@ -1,4 +1,6 @@
-/** An object's 512 calls, the last of them too, and objects that stand side by side. */
+import java.util.Random;
+
+/** An object's 512 calls, the last of them too, objects that stand side by side, and calls that never throw. */
 public final class CallsTest {
     private static final int BAD = MarkSheets.BAD, FULL = MarkSheets.FULL, NONE = MarkSheets.NONE;
     private static final int CALLS = 512;
@@ -10,6 +12,8 @@ public final class CallsTest {
         lastCallOfRefusals();
         lastCallOfDrift();
         objectsAreTheirOwn();
+        sameCallsSameAnswers();
+        neverThrows();
         CHECK.end();
     }
 
@@ -85,5 +89,62 @@ public final class CallsTest {
         }
         CHECK.due("the first one's mark", one.given(0, 0), 3);
         CHECK.due("the first one's fact", one.fact(0, 0, 0), 9);
+    }
+
+    private static long answerOf(MarkSheets x, int call, Random random) {
+        int a = pick(random), b = pick(random), c = pick(random), d = pick(random), e = pick(random);
+        switch (call) {
+            case 0: return x.line(a, b, c, d, e);
+            case 1: return x.span(a, b, c, d, e);
+            case 2: return x.about(a, b, c);
+            case 3: return x.level(a, b, c);
+            case 4: return x.sense(a, b, c);
+            case 5: return x.sensible(a, b);
+            case 6: return x.work(a, b, c, d);
+            case 7: return x.fact(a, b, c);
+            case 8: return x.points(a, b);
+            case 9: return x.mark(a, b, c);
+            case 10: return x.given(a, b);
+            case 11: return x.like(a, b, c);
+            case 12: return x.parts(a, b);
+            case 13: return x.anchor(a, b);
+            case 14: return x.off(a, b);
+            case 15: return x.fair(a, b);
+            case 16: return x.drift(a, b);
+            case 17: return x.moves(a);
+            case 18: return x.copy(a);
+            case 19: return x.count(a);
+            default: return x.trace();
+        }
+    }
+
+    /** Mostly small numbers, so that most calls are taken. */
+    private static int pick(Random random) {
+        int dice = random.nextInt(40);
+        return dice == 0 ? random.nextInt() : dice == 1 ? NONE : dice < 30 ? random.nextInt(3) : random.nextInt(13) - 1;
+    }
+
+    private static void sameCallsSameAnswers() {
+        CHECK.sentence("the same calls always give the same answers (rule 13)");
+        MarkSheets one = new MarkSheets();
+        MarkSheets other = new MarkSheets();
+        Random ofOne = new Random(7);
+        Random ofOther = new Random(7);
+        for (int call = 0; call < CALLS; call++) {
+            CHECK.due("call " + call, answerOf(one, call % 21, ofOne), answerOf(other, call % 21, ofOther));
+        }
+    }
+
+    /** What they answer is free beyond the 512th call, so the answers are not looked at. */
+    private static void neverThrows() {
+        CHECK.sentence("No call may ever throw or fail to end, for any arguments in any state (rule 7)");
+        Random random = new Random(12);
+        for (int run = 0; run < 40; run++) {
+            MarkSheets x = new MarkSheets();
+            for (int call = 0; call < 10 * CALLS; call++) {
+                answerOf(x, random.nextInt(21), random);
+            }
+            CHECK.due("run " + run + " ended", 1, 1);
+        }
     }
 }

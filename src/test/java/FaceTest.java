@@ -1,91 +1,89 @@
-import java.io.IOException;
 import java.lang.reflect.Constructor;
 import java.lang.reflect.Field;
 import java.lang.reflect.Method;
 import java.lang.reflect.Modifier;
-import java.nio.file.Files;
-import java.nio.file.Path;
 import java.util.Set;
 import java.util.TreeSet;
-import java.util.regex.Matcher;
-import java.util.regex.Pattern;
 
-/** The public face as the document gives it, and the rules of LANGUAGE.md that can be seen. */
+/** The public face as the document gives it, with every type, and nothing beside it that could be seen. */
 public final class FaceTest {
-    private static final Path SOURCE = Path.of("src/main/java/MarkSheets.java");
-    private static final String FORBIDDEN =
-        "import|package|throw|throws|try|catch|finally|synchronized|assert|protected|static\\s*\\{|->|::|\\w+Exact";
-    private static final Set<String> FACE = Set.of(
-        "int line 5", "int span 5", "int about 3", "int level 3", "int sense 3", "int sensible 2", "int work 4",
-        "int fact 3", "int points 2", "int mark 3", "int given 2", "int like 3", "int parts 2", "int anchor 2",
-        "int off 2", "int fair 2", "int drift 2", "int moves 1", "int copy 1", "int count 1", "long trace 0");
+    private static final Set<String> CONSTANTS = Set.of(
+        "public static final int MarkSheets.BAD", "public static final int MarkSheets.STATE",
+        "public static final int MarkSheets.FULL", "public static final int MarkSheets.NONE");
+    private static final Set<String> METHODS = Set.of(
+        "public int MarkSheets.line(int,int,int,int,int)", "public int MarkSheets.span(int,int,int,int,int)",
+        "public int MarkSheets.about(int,int,int)", "public int MarkSheets.level(int,int,int)",
+        "public int MarkSheets.sense(int,int,int)", "public int MarkSheets.sensible(int,int)",
+        "public int MarkSheets.work(int,int,int,int)", "public int MarkSheets.fact(int,int,int)",
+        "public int MarkSheets.points(int,int)", "public int MarkSheets.mark(int,int,int)",
+        "public int MarkSheets.given(int,int)", "public int MarkSheets.like(int,int,int)",
+        "public int MarkSheets.parts(int,int)", "public int MarkSheets.anchor(int,int)",
+        "public int MarkSheets.off(int,int)", "public int MarkSheets.fair(int,int)",
+        "public int MarkSheets.drift(int,int)", "public int MarkSheets.moves(int)", "public int MarkSheets.copy(int)",
+        "public int MarkSheets.count(int)", "public long MarkSheets.trace()");
     private static final Check CHECK = new Check();
 
-    public static void main(String[] args) throws IOException {
+    public static void main(String[] args) {
         constants();
+        fields();
+        constructor();
         methods();
-        classes();
-        words();
+        theClass();
         CHECK.end();
     }
 
     private static void constants() {
+        CHECK.sentence("public static final int BAD = -100, STATE = -200, FULL = -300, NONE = -900");
         CHECK.due("BAD", MarkSheets.BAD, -100);
         CHECK.due("STATE", MarkSheets.STATE, -200);
         CHECK.due("FULL", MarkSheets.FULL, -300);
         CHECK.due("NONE", MarkSheets.NONE, -900);
+    }
+
+    private static void fields() {
+        CHECK.sentence("every constant with its type, and no other field that is not private");
         Set<String> open = new TreeSet<>();
         for (Field field : MarkSheets.class.getDeclaredFields()) {
             if (!Modifier.isPrivate(field.getModifiers())) {
-                open.add(field.getName());
-            }
-            if (Modifier.isStatic(field.getModifiers())) {
-                same("final " + field.getName(), Modifier.isFinal(field.getModifiers()), true);
+                open.add(field.toString());
             }
         }
-        same("open fields " + open, open.equals(Set.of("BAD", "STATE", "FULL", "NONE")), true);
+        same(open, CONSTANTS);
+    }
+
+    private static void constructor() {
+        CHECK.sentence("public MarkSheets()");
+        Set<String> all = new TreeSet<>();
+        for (Constructor<?> constructor : MarkSheets.class.getDeclaredConstructors()) {
+            all.add(constructor.toString());
+        }
+        same(all, Set.of("public MarkSheets()"));
     }
 
     private static void methods() {
+        CHECK.sentence("every method with its types, and no other method that is not private");
         Set<String> open = new TreeSet<>();
-        Set<String> openNames = new TreeSet<>();
         for (Method method : MarkSheets.class.getDeclaredMethods()) {
             if (!Modifier.isPrivate(method.getModifiers())) {
-                same("public " + method, Modifier.isPublic(method.getModifiers()), true);
-                open.add(method.getReturnType() + " " + method.getName() + " " + method.getParameterCount());
-                openNames.add(method.getName());
+                open.add(method.toString());
             }
         }
-        same("open methods " + open, open.equals(FACE), true);
-        for (Method method : MarkSheets.class.getDeclaredMethods()) {
-            boolean isPrivate = Modifier.isPrivate(method.getModifiers());
-            same("its own name: " + method, isPrivate && openNames.contains(method.getName()), false);
-        }
-        Constructor<?>[] constructors = MarkSheets.class.getDeclaredConstructors();
-        CHECK.due("constructors", constructors.length, 1);
-        same("public constructor", Modifier.isPublic(constructors[0].getModifiers()), true);
-        CHECK.due("constructor's parameters", constructors[0].getParameterCount(), 0);
+        same(open, METHODS);
     }
 
-    private static void classes() {
-        same("public final class", Modifier.isPublic(MarkSheets.class.getModifiers())
-            && Modifier.isFinal(MarkSheets.class.getModifiers()), true);
-        for (Class<?> inside : MarkSheets.class.getDeclaredClasses()) {
-            same("static " + inside, Modifier.isStatic(inside.getModifiers()), true);
-        }
+    private static void theClass() {
+        CHECK.sentence("public final class MarkSheets");
+        CHECK.due("its modifiers", MarkSheets.class.getModifiers(), Modifier.PUBLIC | Modifier.FINAL);
+        CHECK.due("it extends Object alone", MarkSheets.class.getSuperclass() == Object.class ? 1 : 0, 1);
+        CHECK.due("what it implements", MarkSheets.class.getInterfaces().length, 0);
     }
 
-    private static void words() throws IOException {
-        String text = Files.readString(SOURCE);
-        String code = text.replaceAll("(?s)/\\*.*?\\*/", "").replaceAll("//[^\n]*", "");
-        Matcher found = Pattern.compile("(?<!\\w)(" + FORBIDDEN + ")(?!\\w)").matcher(code);
-        while (found.find()) {
-            CHECK.due("the word " + found.group(), 1, 0);
+    private static void same(Set<String> got, Set<String> want) {
+        for (String one : want) {
+            CHECK.due("there is " + one, got.contains(one) ? 1 : 0, 1);
         }
-        same("code was read", code.contains("class MarkSheets"), true);
-    }
-
-    private static void same(String text, boolean got, boolean want) {
-        CHECK.due(text, got ? 1 : 0, want ? 1 : 0);
+        for (String one : got) {
+            CHECK.due("the document has " + one, want.contains(one) ? 1 : 0, 1);
+        }
     }
 }

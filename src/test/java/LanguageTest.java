@@ -135,7 +135,8 @@ public final class LanguageTest {
     }
 
     private void staticFields() {
-        CHECK.sentence("rule 5: Static fields are final: constants");
+        CHECK.sentence("rule 5: Static fields are final: constants; no static initialiser block");
+        CHECK.due("initialiser blocks", text.initialisers, 0);
         for (VariableElement field : text.variables) {
             if (field.getKind() == ElementKind.FIELD && isIn(field, Modifier.STATIC)) {
                 holds(field + " is final", isIn(field, Modifier.FINAL));

@@ -47,6 +47,7 @@ final class Reading extends TreePathScanner<Void, Void> {
     final List<Pair> pairs = new ArrayList<>();
     final List<String> loopConditions = new ArrayList<>();
     final CompilationUnitTree unit;
+    int initialisers = 0;
 
     private final Trees trees;
     private ExecutableElement within = null;
@@ -84,6 +85,9 @@ final class Reading extends TreePathScanner<Void, Void> {
     @Override
     public Void visitClass(ClassTree tree, Void nothing) {
         classes.add((TypeElement) trees.getElement(getCurrentPath()));
+        for (Tree member : tree.getMembers()) {
+            initialisers += member.getKind() == Tree.Kind.BLOCK ? 1 : 0;
+        }
         return super.visitClass(tree, nothing);
     }
 
